@@ -9,6 +9,8 @@ public final class HallCoughs {
     private static final int MOST_BARS = 24, LOUDS = 100, LAST_SECOND = 99999;
     private static final int FARTHEST = 200, FARTHEST_BY_TRIES = 60, FARTHEST_BY_PAIRS = 40, FARTHEST_TOLD = 30;
     private static final int SWEET_GIVEN = 40;
+    /** More than any HARM or COUGHS can be, so that the first that is tried is the least so far. */
+    private static final int FAR_ABOVE = 2147483647;
     private static final int MOST_GROWS = 99, MOST_HARM_AT_ONCE = 9999;
 
     private static final int COUGHER = 0, KEEPER = 1, COVERED = 2, FOLLOWER = 3, BORED = 4, SIGN = 5, KINDS = 6;
@@ -24,7 +26,7 @@ public final class HallCoughs {
     private static final int SLOTS = 5, HOLDS_NOTHING = 0, HOLDS_ONE = 1, HOLDS_SHEET = 2, HOLDS_NUMBER = 3, THINGS = 4;
     private static final int MOST_WAITING = 60;
 
-    private final Hall hall = new Hall();
+    private final Hall now = new Hall();
     private final Hall image = new Hall();
     /** Used again for all that is only thought, so that no call makes a hall of its own. */
     private final Hall thought = new Hall();
@@ -52,17 +54,17 @@ public final class HallCoughs {
         if (!within(kind, KINDS) || !within(seat, SEATS) || !within(age, AGES)) {
             return BAD;
         }
-        if (hall.whoSits(seat) >= 0) {
+        if (now.whoSits(seat) >= 0) {
             return NO;
         }
-        return hall.size >= MOST_PEOPLE ? FULL : hall.comes(kind, seat, age);
+        return now.size >= MOST_PEOPLE ? FULL : now.comes(kind, seat, age);
     }
 
     public int told(int person, int what) {
-        if (!hall.has(person)) {
+        if (!now.has(person)) {
             return BAD;
         }
-        Person one = hall.people[person];
+        Person one = now.people[person];
         switch (what) {
             case 0: return one.kind;
             case 1: return one.seat;
@@ -70,52 +72,52 @@ public final class HallCoughs {
             case 3: return one.itch;
             case 4: return one.sweet;
             case 5: return one.coughs;
-            case 6: return hall.grows(one);
-            case 7: return hall.letsGo(person, hall.loudIn(0)) ? 1 : 0;
+            case 6: return now.grows(one);
+            case 7: return now.letsGo(person, now.loudIn(0)) ? 1 : 0;
             case 8: return one.worth();
             default: return BAD;
         }
     }
 
     public int as(int person, int kind) {
-        if (!hall.has(person) || !within(kind, KINDS)) {
+        if (!now.has(person) || !within(kind, KINDS)) {
             return BAD;
         }
-        Person one = hall.people[person];
+        Person one = now.people[person];
         return one.isOf(kind) ? one.age : KIND;
     }
 
     public int turns(int person, int kind) {
-        if (!hall.has(person) || !within(kind, KINDS)) {
+        if (!now.has(person) || !within(kind, KINDS)) {
             return BAD;
         }
-        Person one = hall.people[person];
+        Person one = now.people[person];
         int was = one.kind;
         one.kind = kind;
         return was;
     }
 
     public int set(int person, int what, int v) {
-        if (!hall.has(person)) {
+        if (!now.has(person)) {
             return BAD;
         }
         switch (what) {
-            case 2: return within(v, AGES) ? hall.people[person].changeAge(v) : BAD;
-            case 3: return within(v, ITCHES) ? hall.people[person].changeItch(v) : BAD;
-            case 4: return within(v, SWEETS) ? hall.people[person].changeSweet(v) : BAD;
+            case 2: return within(v, AGES) ? now.people[person].changeAge(v) : BAD;
+            case 3: return within(v, ITCHES) ? now.people[person].changeItch(v) : BAD;
+            case 4: return within(v, SWEETS) ? now.people[person].changeSweet(v) : BAD;
             default: return BAD;
         }
     }
 
     public int move(int person, int seat) {
-        if (!hall.has(person) || !within(seat, SEATS)) {
+        if (!now.has(person) || !within(seat, SEATS)) {
             return BAD;
         }
-        int there = hall.whoSits(seat);
+        int there = now.whoSits(seat);
         if (there >= 0 && there != person) {
             return NO;
         }
-        Person one = hall.people[person];
+        Person one = now.people[person];
         int was = one.seat;
         one.seat = seat;
         return was;
@@ -125,7 +127,7 @@ public final class HallCoughs {
         if (!within(seat, SEATS)) {
             return BAD;
         }
-        int there = hall.whoSits(seat);
+        int there = now.whoSits(seat);
         return there < 0 ? NONE : there;
     }
 
@@ -133,16 +135,16 @@ public final class HallCoughs {
         if (n < 1 || n > MOST_PEOPLE) {
             return BAD;
         }
-        int coming = Math.min(n, MOST_PEOPLE - hall.size);
+        int coming = Math.min(n, MOST_PEOPLE - now.size);
         for (int k = 0; k < coming; k++) {
-            hall.comesByLot();
+            now.comesByLot();
         }
         return coming;
     }
 
     public int seed(int v) {
-        int was = hall.z;
-        hall.z = v;
+        int was = now.z;
+        now.z = v;
         return was;
     }
 
@@ -151,11 +153,11 @@ public final class HallCoughs {
     public int hall(int what, int v) {
         int was;
         if (what == 0 && within(v, DRYS)) {
-            was = hall.dry;
-            hall.dry = v;
+            was = now.dry;
+            now.dry = v;
         } else if (what == 1 && within(v, NEARS)) {
-            was = hall.near;
-            hall.near = v;
+            was = now.near;
+            now.near = v;
         } else {
             was = BAD;
         }
@@ -166,42 +168,42 @@ public final class HallCoughs {
         if (n < 1 || n > MOST_BARS) {
             return BAD;
         }
-        int were = hall.bars;
+        int were = now.bars;
         for (int k = were; k < n; k++) {
-            hall.loud[k] = 0;
+            now.loud[k] = 0;
         }
-        hall.bars = n;
+        now.bars = n;
         return were;
     }
 
     public int loud(int bar, int v) {
-        if (!within(bar, hall.bars) || !within(v, LOUDS)) {
+        if (!within(bar, now.bars) || !within(v, LOUDS)) {
             return BAD;
         }
-        int was = hall.loud[bar];
-        hall.loud[bar] = v;
+        int was = now.loud[bar];
+        now.loud[bar] = v;
         return was;
     }
 
     public int music(int t) {
-        return t < 0 || t > 99 ? BAD : hall.loudIn(t);
+        return t < 0 || t > 99 ? BAD : now.loudIn(t);
     }
 
     // ---- seconds
 
     public int run(int n) {
-        return n < 1 || n > FARTHEST ? BAD : hall.passSeconds(hall.upToTheLast(n));
+        return n < 1 || n > FARTHEST ? BAD : now.passSeconds(now.upToTheLast(n));
     }
 
     public int did() {
-        return hall.did;
+        return now.did;
     }
 
     public int behind(int n, int what) {
         if (n < 0 || n > FARTHEST || what < 0 || what > 2) {
             return BAD;
         }
-        thought.becomes(hall);
+        thought.becomes(now);
         thought.passSeconds(n);
         switch (what) {
             case 0: return thought.allCoughs();
@@ -211,7 +213,7 @@ public final class HallCoughs {
     }
 
     public int first() {
-        thought.becomes(hall);
+        thought.becomes(now);
         for (int k = 1; k <= FARTHEST; k++) {
             if (thought.passSecond() > 0) {
                 return k;
@@ -225,9 +227,9 @@ public final class HallCoughs {
             return BAD;
         }
         int best = 0;
-        int least = Integer.MAX_VALUE;
-        for (int bar = 0; bar < hall.bars; bar++) {
-            thought.becomes(hall);
+        int least = FAR_ABOVE;
+        for (int bar = 0; bar < now.bars; bar++) {
+            thought.becomes(now);
             thought.loud[bar] = 0;
             thought.passSeconds(n);
             if (thought.harm < least) {
@@ -243,10 +245,10 @@ public final class HallCoughs {
             return BAD;
         }
         int best = NONE;
-        int fewest = Integer.MAX_VALUE;
-        for (int p = 0; p < hall.size; p++) {
-            for (int q = p + 1; q < hall.size; q++) {
-                thought.becomes(hall);
+        int fewest = FAR_ABOVE;
+        for (int p = 0; p < now.size; p++) {
+            for (int q = p + 1; q < now.size; q++) {
+                thought.becomes(now);
                 thought.swapSeats(p, q);
                 thought.passSeconds(n);
                 int coughs = thought.allCoughs();
@@ -264,9 +266,9 @@ public final class HallCoughs {
             return BAD;
         }
         int best = NONE;
-        int least = Integer.MAX_VALUE;
-        for (int p = 0; p < hall.size; p++) {
-            thought.becomes(hall);
+        int least = FAR_ABOVE;
+        for (int p = 0; p < now.size; p++) {
+            thought.becomes(now);
             thought.people[p].sweet = SWEET_GIVEN;
             thought.passSeconds(n);
             if (thought.harm < least) {
@@ -278,10 +280,10 @@ public final class HallCoughs {
     }
 
     public int setOff(int p, int q, int n) {
-        if (!hall.has(p) || !hall.has(q) || p == q || n < 1 || n > FARTHEST) {
+        if (!now.has(p) || !now.has(q) || p == q || n < 1 || n > FARTHEST) {
             return BAD;
         }
-        thought.becomes(hall);
+        thought.becomes(now);
         int many = 0;
         for (int k = 0; k < n; k++) {
             boolean ahead = thought.hasCoughed(q);
@@ -296,9 +298,9 @@ public final class HallCoughs {
     public int loudest() {
         int best = NONE;
         int most = -1;
-        for (int p = 0; p < hall.size; p++) {
-            if (hall.people[p].coughs > most) {
-                most = hall.people[p].coughs;
+        for (int p = 0; p < now.size; p++) {
+            if (now.people[p].coughs > most) {
+                most = now.people[p].coughs;
                 best = p;
             }
         }
@@ -306,7 +308,7 @@ public final class HallCoughs {
     }
 
     public int toldBy(int sheet, int p, int what) {
-        if (!within(sheet, SHEETS) || !hall.has(p) || what < 0 || what > 1) {
+        if (!within(sheet, SHEETS) || !now.has(p) || what < 0 || what > 1) {
             return BAD;
         }
         Row row = sheets[sheet];
@@ -314,7 +316,7 @@ public final class HallCoughs {
             return NOTHING;
         }
         int best = 0;
-        int fewest = Integer.MAX_VALUE;
+        int fewest = FAR_ABOVE;
         for (int kind = 0; kind < KINDS; kind++) {
             int others = secondsOtherwise(row, p, kind);
             if (others < fewest) {
@@ -326,7 +328,7 @@ public final class HallCoughs {
     }
 
     public int fine(int person) {
-        return hall.has(person) ? hall.fineOf(hall.people[person]) : BAD;
+        return now.has(person) ? now.fineOf(now.people[person]) : BAD;
     }
 
     // ---- texts
@@ -355,14 +357,14 @@ public final class HallCoughs {
         if (read == null) {
             return FAULT_BASE - reader.fault;
         }
-        return hall.texts >= MOST_TEXTS ? FULL : hall.takesText(read);
+        return now.texts >= MOST_TEXTS ? FULL : now.takesText(read);
     }
 
     public int textTold(int text, int what) {
-        if (!within(text, hall.texts) || what < 0 || what > 1) {
+        Text one = now.lawAt(text);
+        if (one == null || what < 0 || what > 1) {
             return BAD;
         }
-        Text one = hall.laws[text];
         return what == 0 ? one.key : one.leaves;
     }
 
@@ -370,7 +372,7 @@ public final class HallCoughs {
         if (!within(key, KEYS)) {
             return BAD;
         }
-        return hall.counting[key] < 0 ? NONE : hall.counting[key];
+        return now.counting[key] < 0 ? NONE : now.counting[key];
     }
 
     // ---- sheets, slots
@@ -427,10 +429,10 @@ public final class HallCoughs {
             return NOTHING;
         }
         int otherwise = 0;
-        for (int k = 0; k < row.size && k < hall.bars; k++) {
-            int becomes = row.isNumber(k) ? held(row.places[k], LOUDS - 1) : hall.loud[k];
-            if (becomes != hall.loud[k]) {
-                hall.loud[k] = becomes;
+        for (int k = 0; k < row.size && k < now.bars; k++) {
+            int poured = row.isNumber(k) ? held(row.places[k], LOUDS - 1) : now.loud[k];
+            if (poured != now.loud[k]) {
+                now.loud[k] = poured;
                 otherwise++;
             }
         }
@@ -446,7 +448,7 @@ public final class HallCoughs {
             return NOTHING;
         }
         for (int k = 0; k < row.size; k++) {
-            if (row.isNumber(k) && row.places[k] != hall.loudIn(k)) {
+            if (row.isNumber(k) && row.places[k] != now.loudIn(k)) {
                 return k;
             }
         }
@@ -476,23 +478,23 @@ public final class HallCoughs {
         if (!within(slot, SLOTS) || !within(thing, THINGS)) {
             return BAD;
         }
-        if (thing == HOLDS_ONE && !hall.has(k) || thing == HOLDS_SHEET && !within(k, SHEETS)) {
+        if (thing == HOLDS_ONE && !now.has(k) || thing == HOLDS_SHEET && !within(k, SHEETS)) {
             return BAD;
         }
         if (thing == HOLDS_SHEET && sheets[k].sort == MISSING) {
             return NOTHING;
         }
         Slot into = slots[slot];
-        int held = into.thing;
+        int was = into.thing;
         into.thing = thing;
         if (thing == HOLDS_ONE) {
-            into.one.becomes(hall.people[k]);
+            into.one.becomes(now.people[k]);
         } else if (thing == HOLDS_SHEET) {
             into.row.becomes(sheets[k]);
         } else if (thing == HOLDS_NUMBER) {
             into.number = k;
         }
-        return held;
+        return was;
     }
 
     public int ask(int slot, int kind) {
@@ -561,32 +563,32 @@ public final class HallCoughs {
     }
 
     public int keep() {
-        image.becomes(hall);
+        image.becomes(now);
         imageKept = true;
-        return hall.size;
+        return now.size;
     }
 
     public int back() {
         if (!imageKept) {
             return NO;
         }
-        hall.becomes(image);
-        return hall.size;
+        now.becomes(image);
+        return now.size;
     }
 
     public int count(int what) {
         switch (what) {
-            case 0: return hall.size;
-            case 1: return hall.bars;
-            case 2: return hall.second;
-            case 3: return hall.allCoughs();
-            case 4: return hall.harm;
-            case 5: return hall.dry;
-            case 6: return hall.near;
-            case 7: return hall.texts;
+            case 0: return now.size;
+            case 1: return now.bars;
+            case 2: return now.second;
+            case 3: return now.allCoughs();
+            case 4: return now.harm;
+            case 5: return now.dry;
+            case 6: return now.near;
+            case 7: return now.texts;
             case 8: return waits;
             case 9: return tapeLength;
-            case 10: return hall.z;
+            case 10: return now.z;
             default: return BAD;
         }
     }
@@ -603,7 +605,7 @@ public final class HallCoughs {
 
     /** In how many SECONDS a row tells p otherwise than it would be, were it of a KIND. */
     private int secondsOtherwise(Row row, int p, int kind) {
-        thought.becomes(hall);
+        thought.becomes(now);
         thought.people[p].kind = kind;
         int others = 0;
         for (int k = 0; k < row.size; k++) {
@@ -759,7 +761,7 @@ public final class HallCoughs {
         }
 
         boolean has(int p) {
-            return p >= 0 && p < size;
+            return within(p, size);
         }
 
         /** Who is on a SEAT, or -1. */
@@ -843,27 +845,26 @@ public final class HallCoughs {
             return texts - 1;
         }
 
-        /** The TEXT that counts for a KEY, or null. */
-        private Text lawOf(int key) {
-            int k = counting[key];
-            return k < 0 || k >= texts ? null : laws[k];
+        /** The TEXT with a number, or null. */
+        Text lawAt(int k) {
+            return within(k, texts) ? laws[k] : null;
         }
 
         int grows(Person one) {
             if (one.sweet > 0) {
                 return 0;
             }
-            Text law = lawOf(ITCH_KEY);
+            Text law = lawAt(counting[ITCH_KEY]);
             return law == null ? 1 + one.age / 20 + dry / 10 : held(law.gives(one.age, dry, one.itch), MOST_GROWS);
         }
 
         private int harmOf(int coughs, int loudNow) {
-            Text law = lawOf(HARM_KEY);
+            Text law = lawAt(counting[HARM_KEY]);
             return law == null ? coughs * Math.max(0, 60 - loudNow) : held(law.gives(coughs, loudNow, 0), MOST_HARM_AT_ONCE);
         }
 
         int fineOf(Person one) {
-            Text law = lawOf(FINE_KEY);
+            Text law = lawAt(counting[FINE_KEY]);
             return law == null ? one.coughs : law.gives(one.coughs, harm, 0);
         }
 
@@ -973,7 +974,7 @@ public final class HallCoughs {
                     }
                 } else if (c == SIGN_BASE + '!') {
                     if (top >= 1) {
-                        stack[top - 1] = truth(stack[top - 1] == 0);
+                        stack[top - 1] = stack[top - 1] == 0 ? 1 : 0;
                     }
                 } else if (top >= 2) {
                     top--;
@@ -998,16 +999,12 @@ public final class HallCoughs {
                 case '-': return a - b;
                 case '*': return a * b;
                 case '/': return b == 0 ? 0 : a / b;
-                case '<': return truth(a < b);
-                case '=': return truth(a == b);
-                case '>': return truth(a > b);
-                case '&': return truth(a != 0 && b != 0);
-                default: return truth(a != 0 || b != 0);
+                case '<': return a < b ? 1 : 0;
+                case '=': return a == b ? 1 : 0;
+                case '>': return a > b ? 1 : 0;
+                case '&': return a != 0 && b != 0 ? 1 : 0;
+                default: return a != 0 || b != 0 ? 1 : 0;
             }
-        }
-
-        private static int truth(boolean so) {
-            return so ? 1 : 0;
         }
     }
 

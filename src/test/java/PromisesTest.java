@@ -261,6 +261,7 @@ public final class PromisesTest {
     due("7: where it was", x.move(0, 29), 1);
     due("7: where it is", x.move(0, 29), 29);
     due("7: another one's", x.move(0, 2), NO);
+    due("7: another one's", x.move(1, 29), NO);
     due("7: seat", x.move(0, 30), BAD);
     due("7: seat", x.move(0, -1), BAD);
     due("7: person", x.move(2, 3), BAD);
@@ -502,6 +503,7 @@ public final class PromisesTest {
     due("17: without people", x.behind(200, 2), 0);
     x.person(0, 0, 40);
     x.person(1, 1, 0);
+    due("17: the greatest is that of 0", x.behind(5, 2), 30);
     x.set(0, 3, 94);
     x.run(1);
     due("17: now", x.behind(0, 0), 1);
@@ -626,6 +628,11 @@ public final class PromisesTest {
     y.move(8, 3);
     y.move(9, 4);
     due("20: 0 with 8", y.change(5), 8);
+    HallCoughs z = new HallCoughs();
+    z.person(0, 1, 0);
+    z.person(5, 2, 0);
+    z.person(0, 20, 0);
+    due("20: 1 with 2 is not the first", z.change(3), 102);
   }
 
   private static void sweet() {
@@ -650,6 +657,15 @@ public final class PromisesTest {
     y.person(0, 1, 99);
     y.set(0, 4, 99); // 40 instead of 99 would be worse for 0: it itches again by 53
     due("21: 40, even where there was more", y.sweet(60), 1);
+    HallCoughs z = new HallCoughs();
+    z.person(0, 0, 0);
+    z.person(0, 1, 0);
+    z.set(1, 3, 1);
+    z.set(1, 4, 39);
+    Due.tellText(z, "itch a+99");
+    Due.tellText(z, "harm n=2");
+    // with just 40, 0 would cough in the 42nd, 44th .. together with 1; with 40 for 1 they never do
+    due("21: just 40", z.sweet(60), 1);
   }
 
   private static void setOff() {
@@ -796,7 +812,7 @@ public final class PromisesTest {
   }
 
   private static void faults() {
-    Object[][] rows = {{"", 0}, {"   ", 3}, {"itch", 4}, {"itch  ", 6}, {"itches a", 0}, {" Itch a", 1}, {"hall n", 0}, {"7", 0},
+    Object[][] rows = {{"", 0}, {"   ", 3}, {"itch", 4}, {"itch  ", 6}, {"itches a", 0}, {"itchz", 0}, {"itcha", 0}, {"aitch a", 0}, {"etch a", 0}, {"farm n", 0}, {"line c", 0}, {"itcz a", 0}, {" Itch a", 1}, {"hall n", 0}, {"7", 0},
         {"itch1", 4}, {"itch 1a", 6}, {"itch a1", 6}, {"itch aa", 5}, {"itch a a", 7}, {"itch 12345", 5}, {"itch 1+00001", 7},
         {"itch n", 5}, {"harm a", 5}, {"harm h", 5}, {"fine n", 5}, {"fine l", 5}, {"itch i itch", 7}, {"itch itch", 5},
         {"itch a<d<i", 8}, {"itch a=d>i", 8}, {"itch a+", 7}, {"itch a++d", 7}, {"itch -1", 5}, {"itch +1", 5}, {"itch ()", 6},
@@ -896,9 +912,11 @@ public final class PromisesTest {
     due("31: n", x.sheet(0, 0, 25), BAD);
     due("31: SIZE", x.sheet(0, 0, -1), SIZE);
     due("31: BAD ahead of SIZE", x.sheet(0, 2, -1), BAD);
+    x.mark(0, 0, 5);
     x.mark(0, 23, 5);
     x.sheet(0, 0, 24);
     x.lay(0, 2, 0);
+    due("31: all 0", x.item(0, 0), 0);
     due("31: all 0", x.item(0, 23), 0);
     x.sheet(0, -1, 0);
     due("31: MISSING then", x.pour(0), NOTHING);
@@ -1273,6 +1291,17 @@ public final class PromisesTest {
       x.trim(0);
     }
     due("43: a SEAT that is free again", x.onSeat(29), NONE);
+    HallCoughs y = new HallCoughs();
+    y.keep();
+    y.person(0, 0, 50);
+    y.set(0, 3, 100);
+    y.run(2);
+    y.set(0, 4, 50);
+    y.back();
+    y.person(1, 1, 1);
+    for (int what = 3; what < 6; what++) {
+      due("43: who comes then is new", y.told(0, what), 0);
+    }
   }
 
   private static void count() {
