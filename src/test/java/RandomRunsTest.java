@@ -85,6 +85,9 @@ public final class RandomRunsTest {
   }
 
   private boolean call(String name, Integer... args) throws IllegalAccessException, InvocationTargetException {
+    if (left <= 0) {
+      return true; // what calls beyond the 512th answer is free
+    }
     left--;
     Object[] all = args;
     int got = (Integer) calls.get(name).invoke(x, all);

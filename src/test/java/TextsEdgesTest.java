@@ -184,6 +184,9 @@ public final class TextsEdgesTest {
       isFault("x" + key + " 1", 0);
       isFault(key.toUpperCase() + " 1", 0);
       isFault("  " + key.substring(0, 2) + " 1", 2);
+      for (int k = 0; k < 4; k++) {
+        isFault(key.substring(0, k) + "z" + key.substring(k + 1) + " 1", 0);
+      }
     }
     isFault("1", 0);
     isFault("a", 0);
@@ -525,6 +528,12 @@ public final class TextsEdgesTest {
       e.answers("29: one NAME", Edges.law(KEYS[key] + " !(" + NAMES[key].charAt(0) + ")"), x -> x.textTold(0, 1), 1);
     }
     e.answers("29: the same NAME again", Edges.law("itch a*a*7*7"), x -> x.textTold(0, 1), 4);
+    e.answers("29: behind another TEXT, its own alone", Edges.then(Edges.law("itch a+d+i"), Edges.law("harm n")),
+        x -> x.textTold(1, 1), 1);
+    e.answers("29: behind one with a FAULT, its own alone", Edges.then(Edges.law("itch a+d+"), Edges.law("harm n")),
+        x -> x.textTold(0, 1), 1);
+    e.answers("29: behind one that was FULL, the fourteenth's own", Edges.then(texts(14), Edges.law("itch a+d+i")),
+        x -> x.textTold(13, 1), 2);
     e.answers("29: digits of one NUMBER", Edges.law("itch 7777"), x -> x.textTold(0, 1), 1);
     e.answers("29: one that counts no more", Edges.then(Edges.law("itch a+d+i"), Edges.law("itch a")), x -> x.textTold(0, 1), 3);
     e.refuses("29: not in THE IMAGE", x -> {
