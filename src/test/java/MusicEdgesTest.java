@@ -21,10 +21,12 @@ public final class MusicEdgesTest {
     e.answers("11: DRY can be above what NEAR can", Edges.NEW, x -> x.hall(0, 10), 30);
     for (int v : new int[] {0, 99}) {
       e.answers("11: DRY is " + v, x -> x.hall(0, v), x -> x.count(5), v);
+      e.answers("11: DRY was " + v, x -> x.hall(0, v), x -> x.hall(0, 50), v);
       e.answers("11: NEAR stays with DRY " + v, x -> x.hall(0, v), x -> x.count(6), 3);
     }
     for (int v : new int[] {0, 9}) {
       e.answers("11: NEAR is " + v, x -> x.hall(1, v), x -> x.count(6), v);
+      e.answers("11: NEAR was " + v, x -> x.hall(1, v), x -> x.hall(1, 5), v);
       e.answers("11: DRY stays with NEAR " + v, x -> x.hall(1, v), x -> x.count(5), 30);
     }
   }

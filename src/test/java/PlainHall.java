@@ -697,11 +697,8 @@ public final class PlainHall {
         return 0;
       }
       refuse(n > 24, BAD);
-      try {
-        sheets.put(sheet, sort == 0 ? (Object) new short[n] : new float[n]);
-      } catch (NegativeArraySizeException e) {
-        return SIZE;
-      }
+      refuse(n < 0, SIZE);
+      sheets.put(sheet, sort == 0 ? (Object) new short[n] : new float[n]);
       return n;
     });
   }
@@ -709,21 +706,15 @@ public final class PlainHall {
   public int mark(int sheet, int place, int v) {
     return of(() -> {
       Object row = row(sheet);
-      try {
-        if (row instanceof short[] shorts) {
-          short was = shorts[place];
-          refuse(v == NONE, KIND);
-          shorts[place] = (short) v;
-        } else {
-          float[] floats = (float[]) row;
-          float was = floats[place];
-          refuse(v != NONE && Math.abs((long) v) > 99999, BAD);
-          floats[place] = v == NONE ? Float.NaN : v;
-        }
-        return 1;
-      } catch (ArrayIndexOutOfBoundsException e) {
-        return INDEX;
+      refuse(place < 0 || place >= numbers(row).size(), INDEX);
+      if (row instanceof short[] shorts) {
+        refuse(v == NONE, KIND);
+        shorts[place] = (short) v;
+      } else {
+        refuse(v != NONE && Math.abs((long) v) > 99999, BAD);
+        ((float[]) row)[place] = v == NONE ? Float.NaN : v;
       }
+      return 1;
     });
   }
 
@@ -748,19 +739,16 @@ public final class PlainHall {
     });
   }
 
-  @SuppressWarnings("SuspiciousSystemArraycopy")
   public int copy(int from, int place, int to, int at, int many) {
     return of(() -> {
       in(from, 0, 3);
       in(to, 0, 3);
-      try {
-        System.arraycopy(row(from), place, row(to), at, many);
-        return many;
-      } catch (ArrayStoreException e) {
-        return KIND;
-      } catch (IndexOutOfBoundsException e) {
-        return INDEX;
-      }
+      Object source = row(from), target = row(to);
+      refuse(source.getClass() != target.getClass(), KIND);
+      refuse(many < 0 || place < 0 || at < 0, INDEX);
+      refuse((long) place + many > numbers(source).size() || (long) at + many > numbers(target).size(), INDEX);
+      System.arraycopy(source, place, target, at, many);
+      return many;
     });
   }
 
@@ -793,13 +781,10 @@ public final class PlainHall {
     return of(() -> {
       in(kind, 0, 5);
       Object held = heldBy(slot);
-      try {
-        One o = (One) held;
-        KINDS.get(kind).getClass().cast(o.itsKind());
+      if (held instanceof One o && o.under(kind)) {
         return o.itsKind().worth(o);
-      } catch (ClassCastException e) {
-        return KIND;
       }
+      return KIND;
     });
   }
 
@@ -817,13 +802,9 @@ public final class PlainHall {
   public int remains(int slot, int n) {
     return of(() -> {
       Object held = heldBy(slot);
-      try {
-        return (Integer) held % n;
-      } catch (ClassCastException e) {
-        return KIND;
-      } catch (ArithmeticException e) {
-        return NO;
-      }
+      refuse(thingOf(held) != 3, KIND);
+      refuse(n == 0, NO);
+      return (Integer) held % n;
     });
   }
 

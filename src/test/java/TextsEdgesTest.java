@@ -20,6 +20,7 @@ public final class TextsEdgesTest {
     bytesThatAreSigns();
     signs();
     endTooSoon();
+    firstFaultCounts();
     asLongAsTheTape();
     openOnes();
     nots();
@@ -345,6 +346,25 @@ public final class TextsEdgesTest {
       x.feed(0x69746368, 0x20372020, 0x20202020);
       x.trim(5);
     }, x -> x.text(), -105);
+  }
+
+  /** Behind a FAULT there may be more that would be one, and what would be right in another place. */
+  private static void firstFaultCounts() {
+    isFault("itch ())", 6);
+    isFault("itch () 1", 6);
+    isFault("itch (()", 7);
+    isFault("itch (())", 7);
+    isFault("itch (a+))", 8);
+    isFault("itch (a+)a", 8);
+    isFault("itch !())", 7);
+    isFault("itch (a b)", 8);
+    isFault("itch (12345)+123456", 6);
+    isFault("itch x+y", 5);
+    isFault("itch a a)", 7);
+    isFault("itch a+* (", 7);
+    isFault("harm itch harm", 5);
+    isFault("| itch a", 0);
+    isFault("a | itch", 0);
   }
 
   private static void asLongAsTheTape() {
